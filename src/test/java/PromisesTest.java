@@ -22,6 +22,7 @@ public final class PromisesTest {
         clear();
         drop();
         segment();
+        segmentPlaces();
         sampleOf();
         sample();
         count();
@@ -37,6 +38,7 @@ public final class PromisesTest {
         undo();
         save();
         restore();
+        restoreCaptured();
         CHECK.end("PromisesTest");
     }
 
@@ -560,6 +562,30 @@ public final class PromisesTest {
         due("trigger", x.segment(0, 0), 132);
     }
 
+    /** The least and the greatest sample at each place, with lesser and greater ones around the segment. */
+    private static void segmentPlaces() { // 6
+        for (int place = 0; place < 4; place++) {
+            for (int extreme : new int[] {-40, 40}) {
+                CaptureSegments x = with(LEVEL, -50, HOLD, 0, PRE, 0, DEPTH, 4);
+                int[] values = {3, 5, 1, 2};
+                values[place] = extreme;
+                feedAll(x, 90, 100, -100);
+                feedAll(x, values);
+                feedAll(x, 100, -100, 100);
+                String when = extreme + " at place " + place;
+                due(when + ": trigger", x.segment(0, 0), 3);
+                due(when + ": least", x.segment(0, 4), extreme < 0 ? 960 : 1001 + (place == 2 ? 1 : 0));
+                due(when + ": greatest", x.segment(0, 5), extreme > 0 ? 1040 : place == 1 ? 1003 : 1005);
+                due(when + ": sum", x.segment(0, 6), 10011 + extreme - new int[] {3, 5, 1, 2}[place]);
+                int ups = 0;
+                for (int i = 1; i < 4; i++) {
+                    ups += values[i] > values[i - 1] ? 1 : 0;
+                }
+                due(when + ": ups", x.segment(0, 7), ups);
+            }
+        }
+    }
+
     private static void sampleOf() { // 7
         CaptureSegments x = with(HOLD, 0, DEPTH, 4);
         due("none", x.sampleOf(0, 0), NO_SUCH);
@@ -683,6 +709,9 @@ public final class PromisesTest {
         feedAll(x, 99, 100, 99, 100);
         due("the greatest level", x.bestLevel(0), 1100);
         due("how often", x.bestLevel(1), 2);
+        feedAll(x, -100, -99, -100, -99, -100, -99);
+        due("the least level that can fire", x.bestLevel(0), 901);
+        due("how often", x.bestLevel(1), 3);
         x = bare(KIND, 2, LOW, -100);
         feedAll(x, 18, 19, 18, 19, 18, 50);
         due("runts: HIGH less one", x.bestLevel(0), 1019);
@@ -924,6 +953,33 @@ public final class PromisesTest {
         x.undo();
         due("segment", x.segment(0, 6), 10001);
 
+        x = bare();
+        feedAll(x, -9, 1, -9, 2, -9, 3);
+        x.drop(0);
+        x.drop(0);
+        due("undo()", x.undo(), 5);
+        due("the second", x.sampleOf(0, 0), 1002);
+        due("undo()", x.undo(), 4);
+        due("the first", x.sampleOf(0, 0), 1001);
+        due("the third", x.sampleOf(2, 0), 1003);
+        counts("counted so far", x, 4, 3, 3, 0, 3);
+        due("undo()", x.undo(), 3);
+        counts("counted so far", x, 4, 2, 2, 0, 2);
+        x.set(KEEP, 1);
+        due("one", x.sampleOf(0, 0), 1002);
+        x.undo();
+        due("two", x.count(1), 2);
+        due("the first", x.sampleOf(0, 0), 1001);
+        due("keep", x.count(18), 1004);
+        x.clear();
+        feedAll(x, -50, 50);
+        x.undo();
+        x.undo();
+        x.undo();
+        due("samples", x.sample(1), 1001);
+        due("the first", x.sampleOf(0, 0), 1001);
+        due("the second", x.sampleOf(1, 0), 1002);
+
         // What is nothing for undo(): the pad, the slots, errors, questions.
         x = new CaptureSegments();
         x.feed(5, 2);
@@ -973,6 +1029,34 @@ public final class PromisesTest {
         due("save(1)", x.save(1), 1);
         due("overwritten", x.restore(0), 2);
         due("overwritten", x.restore(1), 1);
+    }
+
+    /** The segment that is being captured is the one that was when it was saved. */
+    private static void restoreCaptured() { // 20
+        CaptureSegments x = with(HOLD, 0, PRE, 1, DEPTH, 3);
+        feedAll(x, 60, -9, 5);
+        x.save(0);
+        x.clear();
+        x.set(DEPTH, 6);
+        x.set(PRE, 3);
+        x.set(KIND, 1);
+        feedAll(x, 1, 2, 3, 4, 5, 6, -7);
+        x.save(1);
+        due("captures", x.count(9), 2);
+        x.restore(0);
+        counts("captures", x, 8, 3, 1);
+        due("complete", x.feed(8, 1), 1);
+        int[] wants = {2, 3, 1, 0, 991, 1008, 10004, 2};
+        for (int what = 0; what < 8; what++) {
+            due("restore(0), segment(0, " + what + ")", x.segment(0, what), wants[what]);
+        }
+        x.restore(1);
+        counts("captures", x, 8, 7, 2);
+        due("complete", x.feed(8, 2), 1);
+        wants = new int[] {6, 6, 3, 1, 993, 1008, 10024, 3};
+        for (int what = 0; what < 8; what++) {
+            due("restore(1), segment(0, " + what + ")", x.segment(0, what), wants[what]);
+        }
     }
 
     private static void restore() { // 20

@@ -880,6 +880,20 @@ public final class PromisesTest {
         runText(x, "-9,1;-9,2;k1;9,-3;l50;k0;-9,99", 7);
         counts("segments", x, 0, 8, 4, 2, 0, 4, 4, 0, 4, 0);
         due("of another kind", x.segment(2, 3), 1);
+
+        x = bare(KIND, 1);
+        x.feed(9, 1);
+        runText(x, "-3", 1);
+        counts("the detector was armed ahead of it", x, 3, 0, 1, 1);
+        due("kind", x.count(10), 1001);
+        x.feed(9, 1);
+        runText(x, "4;l4;4;9;l-2;-1", 6);
+        counts("\"l\" puts it off", x, 3, 0, 1);
+        x.feed(9, 1);
+        runText(x, "k1;-50;9", 3);
+        counts("\"k\" puts it off", x, 3, 1, 1);
+        runText(x, "c", 1);
+        counts("\"c\" puts it off", x, 3, 0, 1);
     }
 
     private static void carryOutErrors() { // 17

@@ -111,7 +111,7 @@ public final class RandomRunsTest {
                 int level = sample();
                 due(call, "fires", level, 0, real.fires(level), model.fires(level)); break;
             case 69:
-                if (random.nextInt(12) == 0) {
+                if (random.nextInt(4) == 0) {
                     int what = number(0, 1);
                     due(call, "bestLevel", what, 0, real.bestLevel(what), model.bestLevel(what));
                 }

@@ -1,7 +1,5 @@
 /** For each promise of the document: ordinary inputs, the edges that it names, and wrong inputs, errors in its order. */
-public final class PromisesTest {
-    private static final int NO_SUCH = -1, BAD_VALUE = -2, BAD_TEXT = -3, TOO_MANY = -4, NOT_POSSIBLE = -5, NONE = -6;
-    private static final int KIND = 0, LEVEL = 1, HYST = 2, LOW = 3, HIGH = 4, DEPTH = 5, PRE = 6, HOLD = 7, KEEP = 8, OVER = 9;
+public final class PromisesTest extends Scopes {
     private static final Check CHECK = new Check();
     private static final int[] LEAST = {0, -100, 0, -100, -100, 1, 0, 0, 1, 0};
     private static final int[] GREATEST = {2, 100, 50, 100, 100, 32, 31, 60, 6, 1};
@@ -46,46 +44,8 @@ public final class PromisesTest {
         CHECK.due(call, got, want);
     }
 
-    /** An object with the settings, in pairs. */
-    private static CaptureSegments with(int... pairs) {
-        CaptureSegments x = new CaptureSegments();
-        for (int i = 0; i < pairs.length; i += 2) {
-            due("with(" + pairs[i] + ", " + pairs[i + 1] + ")", x.set(pairs[i], pairs[i + 1]), FIRST[pairs[i]] + 1000);
-        }
-        return x;
-    }
-
-    /** An object whose segments are the trigger alone, and that is ready at once. */
-    private static CaptureSegments bare(int... pairs) {
-        CaptureSegments x = with(PRE, 0, DEPTH, 1, HOLD, 0);
-        for (int i = 0; i < pairs.length; i += 2) {
-            due("bare(" + pairs[i] + ", " + pairs[i + 1] + ")", x.set(pairs[i], pairs[i + 1]), FIRST[pairs[i]] + 1000);
-        }
-        return x;
-    }
-
-    private static void feedAll(CaptureSegments x, int... values) {
-        for (int value : values) {
-            x.feed(value, 1);
-        }
-    }
-
     private static void counts(String when, CaptureSegments x, int from, int... wants) {
-        for (int i = 0; i < wants.length; i++) {
-            due(when + ": count(" + (from + i) + ")", x.count(from + i), wants[i]);
-        }
-    }
-
-    private static int putText(CaptureSegments x, String text) {
-        int answer = 0;
-        for (int i = 0; i < text.length(); i += 8) {
-            long packed = 0;
-            for (char c : text.substring(i, Math.min(i + 8, text.length())).toCharArray()) {
-                packed = packed << 8 | c;
-            }
-            answer = x.put(packed);
-        }
-        return answer;
+        CHECK.counts(when, x, from, wants);
     }
 
     private static void faultOf(String text, int want) {

@@ -1,4 +1,4 @@
-/** Promises 18 to 20 of the document: undo, save and restore. */
+/** Promises 18 to 20 of the document: undo, save and restore; and as many calls as an object is used for. */
 public final class BoundaryStatesTest extends Scopes {
     private static final int[] NO_SLOT = {-1, 2, 3, LOWEST, HIGHEST, 1 << 30, 1 << 31 | 1};
 
@@ -15,6 +15,39 @@ public final class BoundaryStatesTest extends Scopes {
         x.set(PRE, 2);
         feedAll(x, 9, 8, -7, 3);
         return x;
+    }
+
+    // ---- 512 calls
+
+    @Sentence("An object is used for at most 512 calls after it has been made;")
+    static void what_512Calls(Check check) {
+        CaptureSegments x = new CaptureSegments();
+        for (int call = 1; call <= 511; call++) {
+            x.set(LEVEL, call % 100);
+        }
+        check.due("511 changes: the last one", x.set(LEVEL, 0), 1011);
+        x = new CaptureSegments();
+        for (int call = 1; call <= 499; call++) {
+            x.set(LEVEL, call % 100);
+        }
+        for (int left = 5; left >= 0; left--) {
+            check.due("499 changes, undo()", x.undo(), left);
+            check.due("level", x.count(11), 1093 + left);
+        }
+        check.due("no more", x.undo(), NOT_POSSIBLE);
+        x = bare(OVER, 1);
+        keep(x, 100);
+        keep(x, 100);
+        check.due("200 segments", x.clear(), 4);
+        keep(x, 50);
+        check.counts("250 segments", x, 4, 250, 250, 0, 250, 0);
+        x = new CaptureSegments();
+        for (int round = 1; round <= 128; round++) {
+            check.due("put()", x.put(packed("k2;5,-6")), 7);
+            check.due("fault()", x.fault(), NONE);
+            check.due("carryOut()", x.carryOut(), 2);
+            check.due("sample()", x.sample(2 * round - 1), 994);
+        }
     }
 
     // ---- 18

@@ -495,6 +495,9 @@ final class Breakages {
         {"p17_badText", "if (pad.read() != NONE) {", "if (pad.read() != NONE) { pad.length = 0;"},
         {"p17_badText", "if (pad.read() != NONE) {", "if (pad.read() != NONE && pad.length == 0) {"},
         {"p17_badText", "if (pad.read() != NONE) {", "if (pad.read() != NONE && pad.length > 0) {"},
+        // ---- 512 calls
+        {"what_512Calls", "next = next == MOST_STATES - 1 ? 0 : next + 1;", "next++;"},
+        {"what_512Calls", "completed++;", "completed = Math.min(completed + 1, 200);"},
         // ---- promise 18
         {"p18_asItWas", "copyRow(from.settings, settings);", ""},
         {"p18_asItWas", "copyRow(from.samples, samples);", ""},

@@ -5,7 +5,8 @@ import java.lang.annotation.Target;
 
 /**
  * The words of the document that a test is about, one text for each place of the same section. Where they stand is told
- * by the beginning of the test's name: "p07_.." for promise 7, "terms_..", "settings_..", "segments_.." and "texts_..".
+ * by the beginning of the test's name: "p07_.." for promise 7, "what_.." for "What it is", "terms_..", "settings_..",
+ * "segments_.." and "texts_..".
  */
 @Retention(RetentionPolicy.RUNTIME)
 @Target(ElementType.METHOD)
